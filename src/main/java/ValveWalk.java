@@ -758,7 +758,7 @@ public final class ValveWalk {
         private final Network network;
         // By two nodes: the least length of a walk between them, FAR if there is none.
         private final int[] between = new int[MOST_NODES * MOST_NODES];
-        // The nodes to come to.
+        // The nodes to come to, those of several valves as often.
         private final int[] stops = new int[MOST_STOPS];
         // By a set of stops and the last one: the least length of a walk over them that ends there.
         private final int[] least = new int[(1 << MOST_STOPS) * MOST_STOPS];
@@ -789,14 +789,11 @@ public final class ValveWalk {
         }
 
         private int listStops(int valves) {
-            int listed = 0;
             int count = 0;
             for (int valve = 0; valve < network.valveCount(); valve++) {
-                int node = network.nodeOfValve(valve);
-                if (hasBit(valves, valve) && !hasBit(listed, node) && count < MOST_STOPS) {
-                    stops[count] = node;
+                if (hasBit(valves, valve) && count < MOST_STOPS) {
+                    stops[count] = network.nodeOfValve(valve);
                     count++;
-                    listed |= 1 << node;
                 }
             }
             return count;

@@ -13,6 +13,7 @@ public final class BreaksTest {
         twoAgainstOne();
         wayThatIsTakenBack();
         twelveValves();
+        twelveValvesInARow();
         customersFarOff();
         wrongInputs();
         CHECK.finish();
@@ -164,6 +165,23 @@ public final class BreaksTest {
         fewestAre("one is shut", walk, 12, 11, 4095 - 32);
         walk.setStuck(11, true);
         fewestAre("one is stuck", walk, 12, -1, -1);
+    }
+
+    /** Water comes over all valves one by one, from the last one to the first. */
+    private static void twelveValvesInARow() {
+        ValveWalk walk = Nets.row(8, 1, 1);
+        walk.setSource(0, false);
+        walk.setSource(7, true);
+        for (int valve = 0; valve < 12; valve++) {
+            walk.addValve(1 + valve / 2, valve % 2);
+        }
+        fewestAre("behind twelve", walk, 0, 1, 1);
+        ringIs("behind twelve", walk, 0, 1, 1);
+        for (int valve = 0; valve < 11; valve++) {
+            walk.setStuck(valve, true);
+        }
+        fewestAre("behind eleven that are stuck", walk, 0, 1, 2048);
+        ringIs("behind eleven that are stuck", walk, 0, 2048, 7);
     }
 
     /** The ring of a pipe in the middle cuts off what is behind it, but not what is before. */

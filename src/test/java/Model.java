@@ -107,6 +107,10 @@ final class Model {
         return segmentNumbers()[nodes() + pipe];
     }
 
+    int segmentByMerging(int pipe) {
+        return segmentOfPipe(pipe);
+    }
+
     int ring(int pipe) {
         demandIndex(pipe, pipes);
         boolean[] region = region(pipe);

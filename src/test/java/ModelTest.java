@@ -1,10 +1,24 @@
+import java.lang.reflect.InvocationTargetException;
+import java.lang.reflect.Method;
+import java.util.HashMap;
+import java.util.Map;
 import java.util.Random;
 
 /** Long runs of calls, good ones and wrong ones, answered by the program and by the model. */
 public final class ModelTest {
     private static final Check CHECK = new Check("ModelTest");
-    private static final int RUNS = 600;
+    private static final int RUNS = 250;
     private static final int CALLS = 512;
+    private static final String[] BUILDING = {
+        "addNode", "addPipe", "addPipe", "addPipe", "addValve", "addValve", "setSource", "setStuck",
+        "turn"};
+    private static final String[] ASKING = {
+        "addPipe", "addValve", "setSource", "setStuck", "turn", "nodes", "pipes", "valves",
+        "isNodeDry", "isPipeDry", "supplied", "segments", "segmentOfNode", "segmentOfPipe",
+        "segmentByMerging", "ring", "cutOff", "fewest", "fewestByTrying", "distance", "flushAt",
+        "walk"};
+    private static final Map<String, Method> PROGRAM = methodsOf(ValveWalk.class);
+    private static final Map<String, Method> MODEL = methodsOf(Model.class);
 
     public static void main(String[] args) {
         for (int run = 0; run < RUNS; run++) {
@@ -17,33 +31,40 @@ public final class ModelTest {
         ValveWalk walk = new ValveWalk();
         Model model = new Model();
         // Some nets grow full at once, others stay small for long.
-        int building = 20 + random.nextInt(60);
+        int building = 20 + random.nextInt(120);
         for (int call = 0; call < CALLS; call++) {
-            boolean isEarly = call < building || random.nextInt(20) == 0;
-            int kind = isEarly ? random.nextInt(9) : 3 + random.nextInt(20);
-            int[] told = arguments(kind, model, random);
-            String got = Check.said(walk, x -> ask(x, kind, told));
-            String due = Check.said(walk, x -> ask(model, kind, told));
-            CHECK.same("run " + run + ", call " + call + " of kind " + kind, got, due);
+            boolean isBuilding = call < building || random.nextInt(20) == 0;
+            String[] names = isBuilding ? BUILDING : ASKING;
+            String name = names[random.nextInt(names.length)];
+            int[] told = arguments(name, model, random);
+            String got = answer(walk, PROGRAM.get(name), told);
+            String due = answer(model, MODEL.get(name), told);
+            CHECK.same("run " + run + ", call " + call + ", " + name, got, due);
         }
     }
 
-    private static int[] arguments(int kind, Model model, Random random) {
+    private static int[] arguments(String name, Model model, Random random) {
         int node = near(model.nodes(), random);
         int pipe = near(model.pipes(), random);
         int valve = near(model.valves(), random);
-        int flag = random.nextInt(3) == 0 ? 1 : 0;
-        return switch (kind) {
-            case 0 -> new int[] {flag};
-            case 1, 7, 8 -> new int[] {node, near(model.nodes(), random), within(1, 99, random),
+        return switch (name) {
+            case "addNode" -> new int[] {flag(5, random)};
+            case "addPipe" -> new int[] {node, near(model.nodes(), random), within(1, 99, random),
                 within(0, 99, random)};
-            case 2, 6 -> new int[] {pipe, within(0, 1, random)};
-            case 3, 9, 13, 20 -> new int[] {node, flag};
-            case 4, 5 -> new int[] {valve, flag};
-            case 21 -> new int[] {random.nextInt(19) - 1};
-            case 22 -> new int[] {node, set(model.valves(), random)};
+            case "addValve" -> new int[] {pipe, within(0, 1, random)};
+            case "setSource" -> new int[] {node, flag(5, random)};
+            case "setStuck", "turn" -> new int[] {valve, flag(7, random)};
+            case "isNodeDry", "segmentOfNode", "distance" -> new int[] {node};
+            case "flushAt" -> new int[] {random.nextInt(random.nextBoolean() ? 5 : 19) - 1};
+            case "walk" -> new int[] {node, set(model.valves(), random)};
+            case "nodes", "pipes", "valves", "supplied", "segments" -> new int[0];
             default -> new int[] {pipe};
         };
+    }
+
+    /** Few sources, and few valves that are shut or stuck, leave the most to find. */
+    private static int flag(int outOf, Random random) {
+        return random.nextInt(outOf) == 0 ? 1 : 0;
     }
 
     /** Mostly a number below the count, but at times one that is out of range. */
@@ -73,54 +94,26 @@ public final class ModelTest {
         };
     }
 
-    private static long ask(ValveWalk x, int kind, int[] a) {
-        return switch (kind) {
-            case 0 -> x.addNode(a[0] == 1);
-            case 1, 7, 8 -> x.addPipe(a[0], a[1], a[2], a[3]);
-            case 2, 6 -> x.addValve(a[0], a[1]);
-            case 3 -> Check.bit(x.setSource(a[0], a[1] == 1));
-            case 4 -> Check.bit(x.setStuck(a[0], a[1] == 1));
-            case 5 -> Check.bit(x.turn(a[0], a[1] == 1));
-            case 9 -> Check.bit(x.isNodeDry(a[0]));
-            case 10 -> Check.bit(x.isPipeDry(a[0]));
-            case 11 -> x.supplied();
-            case 12 -> x.segments();
-            case 13 -> x.segmentOfNode(a[0]);
-            case 14 -> x.segmentOfPipe(a[0]);
-            case 15 -> x.segmentByMerging(a[0]);
-            case 16 -> x.ring(a[0]);
-            case 17 -> x.cutOff(a[0]);
-            case 18 -> x.fewest(a[0]);
-            case 19 -> x.fewestByTrying(a[0]);
-            case 20 -> x.distance(a[0]);
-            case 21 -> x.flushAt(a[0]);
-            case 22 -> x.walk(a[0], a[1]);
-            default -> 1_000_000L * x.nodes() + 1_000L * x.pipes() + x.valves();
-        };
+    private static Map<String, Method> methodsOf(Class<?> kind) {
+        Map<String, Method> methods = new HashMap<>();
+        for (Method method : kind.getDeclaredMethods()) {
+            methods.put(method.getName(), method);
+        }
+        return methods;
     }
 
-    private static long ask(Model x, int kind, int[] a) {
-        return switch (kind) {
-            case 0 -> x.addNode(a[0] == 1);
-            case 1, 7, 8 -> x.addPipe(a[0], a[1], a[2], a[3]);
-            case 2, 6 -> x.addValve(a[0], a[1]);
-            case 3 -> Check.bit(x.setSource(a[0], a[1] == 1));
-            case 4 -> Check.bit(x.setStuck(a[0], a[1] == 1));
-            case 5 -> Check.bit(x.turn(a[0], a[1] == 1));
-            case 9 -> Check.bit(x.isNodeDry(a[0]));
-            case 10 -> Check.bit(x.isPipeDry(a[0]));
-            case 11 -> x.supplied();
-            case 12 -> x.segments();
-            case 13 -> x.segmentOfNode(a[0]);
-            case 14, 15 -> x.segmentOfPipe(a[0]);
-            case 16 -> x.ring(a[0]);
-            case 17 -> x.cutOff(a[0]);
-            case 18 -> x.fewest(a[0]);
-            case 19 -> x.fewestByTrying(a[0]);
-            case 20 -> x.distance(a[0]);
-            case 21 -> x.flushAt(a[0]);
-            case 22 -> x.walk(a[0], a[1]);
-            default -> 1_000_000L * x.nodes() + 1_000L * x.pipes() + x.valves();
-        };
+    private static String answer(Object asked, Method method, int[] told) {
+        Object[] arguments = new Object[told.length];
+        for (int place = 0; place < told.length; place++) {
+            boolean isFlag = method.getParameterTypes()[place] == boolean.class;
+            arguments[place] = isFlag ? (Object) (told[place] == 1) : (Object) told[place];
+        }
+        try {
+            return String.valueOf(method.invoke(asked, arguments));
+        } catch (InvocationTargetException thrown) {
+            return "throws." + thrown.getCause().getClass().getSimpleName();
+        } catch (IllegalAccessException refused) {
+            throw new IllegalStateException(refused);
+        }
     }
 }

@@ -27,6 +27,7 @@ public final class WalkingTest {
         walkIs("first to the nearer", walk, 2, 1 << 11 | 1, 80);
         walkIs("six valves", walk, 2, 0b101010101010, 60);
         walkIs("six other valves", walk, 4, 0b010101010101, 60);
+        walkIs("from the last node", Nets.full(), 11, 1, 11);
         walkIs("the longest pipes", Nets.valvedRow(7, 99, 0), 0, 1 << 11, 594);
     }
 
