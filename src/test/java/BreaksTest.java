@@ -12,6 +12,7 @@ public final class BreaksTest {
         severalSources();
         twoAgainstOne();
         wayThatIsTakenBack();
+        waysOverOneValveAgainAndAgain();
         twelveValves();
         twelveValvesInARow();
         customersFarOff();
@@ -147,6 +148,30 @@ public final class BreaksTest {
         walk.addValve(5, 0);
         fewestAre("two ways", walk, 3, 2, 9);
         ringIs("two ways", walk, 3, 20, 3);
+    }
+
+    /** What some ways take back of others goes over the same valve to and fro, more than once. */
+    private static void waysOverOneValveAgainAndAgain() {
+        fewestAre("three ways", linked("21 24 41 02 23 30 43 21 30 30"), 10, 3, 70);
+        fewestAre("three other ways", linked("24 21 20 41 32 03 43 03 30 24"), 10, 3, 84);
+        fewestAre("five ways", linked("21 24 40 41 02 12 23 30 34 40 03"), 11, 5, 782);
+    }
+
+    /**
+     * The node 0 is the source, the last pipe leads on from the node 4 to a node 5. Each pair of
+     * digits is a pipe from one node to another, which has the valve of its number at its end 0.
+     */
+    private static ValveWalk linked(String pairs) {
+        ValveWalk walk = new ValveWalk();
+        for (int node = 0; node < 6; node++) {
+            walk.addNode(node == 0);
+        }
+        for (String pair : pairs.split(" ")) {
+            int pipe = walk.addPipe(pair.charAt(0) - '0', pair.charAt(1) - '0', 1, 1);
+            walk.addValve(pipe, 0);
+        }
+        walk.addPipe(4, 5, 1, 1);
+        return walk;
     }
 
     private static void twelveValves() {

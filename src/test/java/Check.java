@@ -1,3 +1,6 @@
+import java.util.IdentityHashMap;
+import java.util.Map;
+
 /** Counts what is as due and what is not, and tells the latter. */
 final class Check {
     /** A call of the face; a boolean counts 1 or 0. */
@@ -15,6 +18,7 @@ final class Check {
     static final Class<? extends RuntimeException> STATE = IllegalStateException.class;
 
     private final String name;
+    private final Map<Maker, String> madeBy = new IdentityHashMap<>();
     private int right;
     private int wrong;
 
@@ -50,9 +54,18 @@ final class Check {
 
     /** The call throws just this, and the object is as one on which it was not made. */
     void refuses(String what, Maker maker, Call call, Class<? extends RuntimeException> due) {
-        ValveWalk asked = maker.make();
-        same(what, said(asked, call), "throws." + due.getSimpleName());
-        same(what + ", then", Snapshot.of(asked), Snapshot.of(maker.make()));
+        same(what, said(maker.make(), call), "throws." + due.getSimpleName());
+        changesNothing(what, maker, call);
+    }
+
+    void changesNothing(String what, Maker maker, Call call) {
+        Maker asked = () -> {
+            ValveWalk walk = maker.make();
+            said(walk, call);
+            return walk;
+        };
+        String due = madeBy.computeIfAbsent(maker, Snapshot::of);
+        same(what + ", then", Snapshot.of(asked), due);
     }
 
     void finish() {

@@ -51,4 +51,62 @@ final class Nets {
         walk.setStuck(2, true);
         return walk;
     }
+
+    /**
+     * All that there may be at once. 12 nodes in a ring with 4 pipes across it, none of which is
+     * longer than a way round it; the valves 2 * p and 2 * p + 1 are at both ends of the pipe
+     * 2 * p, some of them shut or stuck or both; the nodes 0 and 7 are sources.
+     */
+    static ValveWalk crowded() {
+        ValveWalk walk = new ValveWalk();
+        for (int node = 0; node < 12; node++) {
+            walk.addNode(node == 0 || node == 7);
+        }
+        for (int pipe = 0; pipe < 12; pipe++) {
+            walk.addPipe(pipe, (pipe + 1) % 12, 30 + pipe, pipe + 1);
+        }
+        for (int node = 0; node < 4; node++) {
+            walk.addPipe(node, node + 6, 50 + node, 13 + node);
+        }
+        for (int valve = 0; valve < 12; valve++) {
+            walk.addValve(valve / 2 * 2, valve % 2);
+        }
+        walk.turn(3, true);
+        walk.setStuck(5, true);
+        walk.turn(8, true);
+        walk.setStuck(8, true);
+        return walk;
+    }
+
+    /**
+     * So many of each. The node 0 is a source; the pipe p leads on by one from the node p, round
+     * again from the node 0 behind the last but one, and is p + 1 long and has p + 1 customers;
+     * the valves 2 * p and 2 * p + 1 are at both ends of the pipe p.
+     */
+    static ValveWalk sized(int nodes, int pipes, int valves) {
+        ValveWalk walk = new ValveWalk();
+        for (int node = 0; node < nodes; node++) {
+            walk.addNode(node == 0);
+        }
+        for (int pipe = 0; pipe < pipes; pipe++) {
+            int from = pipe % (nodes - 1);
+            walk.addPipe(from, from + 1, pipe + 1, pipe + 1);
+        }
+        for (int valve = 0; valve < valves; valve++) {
+            walk.addValve(valve / 2, valve % 2);
+        }
+        return walk;
+    }
+
+    /** The node 0 in the middle; the pipe p leads from it to the node p + 1, with a valve there. */
+    static ValveWalk star(int pipes, int length) {
+        ValveWalk walk = new ValveWalk();
+        walk.addNode(true);
+        for (int pipe = 0; pipe < pipes; pipe++) {
+            walk.addNode(false);
+            walk.addPipe(0, pipe + 1, length, 1);
+            walk.addValve(pipe, 1);
+        }
+        return walk;
+    }
 }
